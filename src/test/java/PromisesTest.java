@@ -34,6 +34,7 @@ public final class PromisesTest {
         scaleOverAndUnder();
         extract();
         remainder();
+        remainderOfWholeNumbers();
         remainderAtFirst();
         remainderPartial();
         compare();
@@ -320,6 +321,13 @@ public final class PromisesTest {
         x.set(1, 0, 0, 1);
         due.same("by a denormal one, not masked", x.scale(0, 1, 2), DENORMAL);
         due.same("no answer", x.told(1), 0);
+        x.constant(4, 0);
+        x.set(1, 0x7fff, 5, 5);
+        x.control(ALL_MASKED);
+        due.same("no number by pi", x.scale(1, 0, 2), INVALID);
+        holds("no number, the first", x, 2, 0x7fff, 5, 5);
+        due.same("pi by no number", x.scale(0, 1, 3), INVALID);
+        holds("no number, the second", x, 3, 0x7fff, 5, 5);
         due.throwsIndex("scale(8, 0, 0)", () -> x.scale(8, 0, 0));
         due.throwsIndex("scale(0, -1, 0)", () -> x.scale(0, -1, 0));
         due.throwsIndex("scale(0, 0, 8)", () -> x.scale(0, 0, 8));
@@ -361,6 +369,16 @@ public final class PromisesTest {
         x.set(0, 1, HIGHEST, 0);
         due.same("one unit", x.scale(0, 1, 2), 0);
         holds("one unit", x, 2, 0, 0, 1);
+
+        x.control(0);
+        setWhole(x, 1, -1);
+        x.set(0, 2, HIGHEST, 0);
+        due.same("the least normal one is not under", x.scale(0, 1, 2), 0);
+        holds("the least normal one", x, 2, 1, HIGHEST, 0);
+        setWhole(x, 1, 1);
+        x.set(0, 32765, -1, -1);
+        due.same("the greatest normal one is not over", x.scale(0, 1, 2), 0);
+        holds("the greatest normal one", x, 2, 32766, -1, -1);
 
         x.control(ALL_MASKED & ~UNDER);
         x.set(0, MINUS, 0, 1);
@@ -417,6 +435,7 @@ public final class PromisesTest {
         due.throwsArgument("extract(0, 3, 3)", () -> x.extract(0, 3, 3));
         due.throwsIndex("extract(8, 3, 3)", () -> x.extract(8, 3, 3));
         due.throwsIndex("extract(0, 8, 8)", () -> x.extract(0, 8, 8));
+        due.throwsIndex("extract(0, 8, 1)", () -> x.extract(0, 8, 1));
         due.throwsIndex("extract(0, 1, -1)", () -> x.extract(0, 1, -1));
     }
 
@@ -460,6 +479,23 @@ public final class PromisesTest {
         holds("times 2^24576", x, 2, 16383 - 16443 + 24576 + MINUS, 0xe0000000, 0);
     }
 
+    private void remainderOfWholeNumbers() {
+        RealSteps x = new RealSteps();
+        RealSteps y = new RealSteps();
+        for (int i = -40; i <= 40; i++) {
+            for (int j = 1; j <= 9; j++) {
+                setWhole(x, 0, i);
+                setWhole(x, 1, j);
+                setWhole(y, 0, i % j);
+                String what = i + " by " + j;
+                due.same(what, x.remainder(0, 1, 2), 0);
+                int top = i < 0 && i % j == 0 ? MINUS : y.part(0, 0);
+                holds(what, x, 2, top, y.part(0, 1), 0);
+                due.same(what + ", the quotient's bits", x.told(2), Math.abs(i / j) & 7);
+            }
+        }
+    }
+
     private void remainderAtFirst() {
         RealSteps x = with(ALL_MASKED, 0x7fff, 0, 0);
         x.constant(1, 1);
@@ -477,7 +513,9 @@ public final class PromisesTest {
         holds("no number", x, 5, 0x7fff, 5, 0);
         x.set(5, 0xffff, -1, 0);
         x.remainder(4, 5, 6);
-        holds("the greater fraction, without a sign", x, 6, 0xffff, -1, 0);
+        holds("the greater fraction, as one without a sign", x, 6, 0xffff, -1, 0);
+        x.remainder(5, 4, 6);
+        holds("the greater fraction of the first", x, 6, 0xffff, -1, 0);
         x.set(5, 0xffff, 5, 0);
         x.remainder(5, 4, 6);
         holds("of the same that without the sign -", x, 6, 0x7fff, 5, 0);
