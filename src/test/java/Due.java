@@ -4,14 +4,21 @@ final class Due {
         void run();
     }
 
+    private String sentence = "";
+    private int sentences;
     private int checks;
     private int wrong;
+
+    /** What follows is the test of this sentence of the document; it is printed with what is wrong. */
+    void sentence(String text) {
+        sentence = "[" + text + "] ";
+        sentences++;
+    }
 
     void same(String what, long got, long want) {
         checks++;
         if (got != want) {
-            wrong++;
-            System.out.println(what + " answered " + got + ", due is " + want);
+            wrong(what + " answered " + got + ", due is " + want);
         }
     }
 
@@ -23,24 +30,48 @@ final class Due {
         throwing(what, IllegalArgumentException.class, call);
     }
 
+    void throwsNothing(String what, Call call) {
+        checks++;
+        try {
+            call.run();
+        } catch (RuntimeException thrown) {
+            wrong(what + " threw " + thrown + ", due is nothing");
+        }
+    }
+
+    /** A test that throws is wrong in the sentence that it had come to; the others go on. */
+    void run(Call test) {
+        sentence = "";
+        try {
+            test.run();
+        } catch (RuntimeException thrown) {
+            wrong("threw " + thrown);
+        }
+    }
+
     private void throwing(String what, Class<?> kind, Call call) {
         checks++;
         try {
             call.run();
         } catch (RuntimeException thrown) {
-            if (thrown.getClass() == kind) {
-                return;
+            if (thrown.getClass() != kind) {
+                wrong(what + " threw " + thrown + ", due is " + kind.getName());
             }
-            wrong++;
-            System.out.println(what + " threw " + thrown + ", due is " + kind.getName());
             return;
         }
+        wrong(what + " threw nothing, due is " + kind.getName());
+    }
+
+    private void wrong(String text) {
         wrong++;
-        System.out.println(what + " threw nothing, due is " + kind.getName());
+        System.out.println(sentence + text);
     }
 
     /** Ends the program, with exit code 1 if an answer was not as due. */
     void end() {
+        if (sentences > 0) {
+            System.out.print(sentences + " sentences, ");
+        }
         System.out.println(checks + " answers looked at, " + wrong + " not as due");
         System.exit(wrong == 0 ? 0 : 1);
     }

@@ -1,49 +1,35 @@
 /** The promises one by one: ordinary inputs, the edges that the document names, and wrong inputs. */
-public final class PromisesTest {
-    private static final int MINUS = 0x8000;
+public final class PromisesTest extends Bench {
     private static final int HIGHEST = 0x80000000;
     private static final int ALL_MASKED = 0x03ff;
-    private static final int DOWN = 0x0400;
-    private static final int UP = 0x0800;
-    private static final int CUT = 0x0c00;
-    private static final int VIEW = 0x1000;
-
-    private static final int INVALID = 1;
-    private static final int DENORMAL = 2;
-    private static final int DIVISION = 4;
-    private static final int OVER = 8;
-    private static final int UNDER = 16;
-    private static final int LOSS = 32;
-
-    private final Due due = new Due();
 
     public static void main(String[] args) {
         new PromisesTest().run();
     }
 
     private void run() {
-        newObject();
-        control();
-        set();
-        part();
-        turn();
-        constant();
-        whole();
-        wholeAtFirst();
-        scale();
-        scaleOverAndUnder();
-        extract();
-        remainder();
-        remainderOfWholeNumbers();
-        remainderAtFirst();
-        remainderPartial();
-        compare();
-        compareInfinite();
-        test();
-        examine();
-        told();
-        throwingChangesNothing();
-        due.end();
+        runAll(
+                this::newObject,
+                this::control,
+                this::set,
+                this::part,
+                this::turn,
+                this::constant,
+                this::whole,
+                this::wholeAtFirst,
+                this::scale,
+                this::scaleOverAndUnder,
+                this::extract,
+                this::remainder,
+                this::remainderOfWholeNumbers,
+                this::remainderAtFirst,
+                this::remainderPartial,
+                this::compare,
+                this::compareInfinite,
+                this::test,
+                this::examine,
+                this::told,
+                this::throwingChangesNothing);
     }
 
     private void holds(String what, RealSteps x, int r, int top, int high, int low) {
@@ -52,23 +38,10 @@ public final class PromisesTest {
         due.same(what + ", low", x.part(r, 2), low);
     }
 
-    private static RealSteps with(int control) {
-        RealSteps x = new RealSteps();
-        x.control(control);
-        return x;
-    }
-
     private static RealSteps with(int control, int top, int high, int low) {
         RealSteps x = with(control);
         x.set(0, top, high, low);
         return x;
-    }
-
-    private static void setWhole(RealSteps x, int r, int number) {
-        int size = Math.abs(number);
-        int empty = Integer.numberOfLeadingZeros(size);
-        int power = number == 0 ? 0 : 16383 + 31 - empty;
-        x.set(r, power + (number < 0 ? MINUS : 0), number == 0 ? 0 : size << empty, 0);
     }
 
     // Promise 1
@@ -90,11 +63,11 @@ public final class PromisesTest {
         due.same("DIVISION masked at the first control", x.extract(7, 2, 3), DIVISION);
         due.same("an answer then", x.told(1), 1);
         x.set(0, 32766, HIGHEST, 0);
-        setWhole(x, 4, 100);
+        putWhole(x, 4, 100);
         due.same("OVER masked at the first control", x.scale(0, 4, 5), OVER | LOSS);
         holds("infinite then", x, 5, 32767, HIGHEST, 0);
         x.set(0, 1, HIGHEST, 0);
-        setWhole(x, 4, -1);
+        putWhole(x, 4, -1);
         due.same("UNDER masked at the first control", x.scale(0, 4, 5), 0);
         holds("the denormal one then", x, 5, 0, 0x40000000, 0);
     }
@@ -202,9 +175,9 @@ public final class PromisesTest {
         for (int rounding = 0; rounding < 4; rounding++) {
             RealSteps x = with(ALL_MASKED | rounding << 10);
             RealSteps y = new RealSteps();
-            setWhole(x, 0, halves);
+            putWhole(x, 0, halves);
             x.set(0, x.part(0, 0) - 1, x.part(0, 1), 0);
-            setWhole(y, 0, want[rounding]);
+            putWhole(y, 0, want[rounding]);
             String what = halves + " halves, rounding " + rounding;
             due.same(what, x.whole(0, 1), LOSS);
             int top = want[rounding] == 0 && halves < 0 ? MINUS : y.part(0, 0);
@@ -280,7 +253,7 @@ public final class PromisesTest {
 
     private void scale() {
         RealSteps x = new RealSteps();
-        setWhole(x, 0, 3);
+        putWhole(x, 0, 3);
         x.constant(4, 1);
         due.same("3 by pi", x.scale(0, 1, 2), 0);
         holds("3 times 2^3", x, 2, 16387, 0xc0000000, 0);
@@ -354,41 +327,41 @@ public final class PromisesTest {
         x.set(1, 16383 + MINUS, HIGHEST, 0);
         due.same("rounded up to the least normal one", x.scale(0, 1, 2), UNDER | LOSS);
         holds("rounded up to the least normal one", x, 2, 1, HIGHEST, 0);
-        setWhole(x, 1, -64);
+        putWhole(x, 1, -64);
         x.set(0, 1, HIGHEST, 0);
         due.same("half a unit", x.scale(0, 1, 2), UNDER | LOSS);
         holds("half a unit", x, 2, 0, 0, 0);
         x.set(0, 1, HIGHEST, 1);
         due.same("just over half a unit", x.scale(0, 1, 2), UNDER | LOSS);
         holds("just over half a unit", x, 2, 0, 0, 1);
-        setWhole(x, 1, -65);
+        putWhole(x, 1, -65);
         x.set(0, 1, -1, -1);
         due.same("just below half a unit", x.scale(0, 1, 2), UNDER | LOSS);
         holds("just below half a unit", x, 2, 0, 0, 0);
-        setWhole(x, 1, -63);
+        putWhole(x, 1, -63);
         x.set(0, 1, HIGHEST, 0);
         due.same("one unit", x.scale(0, 1, 2), 0);
         holds("one unit", x, 2, 0, 0, 1);
 
         x.control(0);
-        setWhole(x, 1, -1);
+        putWhole(x, 1, -1);
         x.set(0, 2, HIGHEST, 0);
         due.same("the least normal one is not under", x.scale(0, 1, 2), 0);
         holds("the least normal one", x, 2, 1, HIGHEST, 0);
-        setWhole(x, 1, 1);
+        putWhole(x, 1, 1);
         x.set(0, 32765, -1, -1);
         due.same("the greatest normal one is not over", x.scale(0, 1, 2), 0);
         holds("the greatest normal one", x, 2, 32766, -1, -1);
 
         x.control(ALL_MASKED & ~UNDER);
         x.set(0, MINUS, 0, 1);
-        setWhole(x, 1, -16383);
+        putWhole(x, 1, -16383);
         due.same("under, not masked", x.scale(0, 1, 2), DENORMAL | UNDER);
         due.same("an answer", x.told(1), 1);
         holds("times 2^24576", x, 2, 16383 - 16445 - 16383 + 24576 + MINUS, HIGHEST, 0);
         x.control(ALL_MASKED & ~OVER);
         x.set(0, 32766 + MINUS, -1, -1);
-        setWhole(x, 1, 16383);
+        putWhole(x, 1, 16383);
         due.same("over, not masked", x.scale(0, 1, 2), OVER);
         due.same("an answer", x.told(1), 1);
         holds("times 2^-24576", x, 2, 32766 + 16383 - 24576 + MINUS, -1, -1);
@@ -443,8 +416,8 @@ public final class PromisesTest {
 
     private void remainder() {
         RealSteps x = new RealSteps();
-        setWhole(x, 0, -47);
-        setWhole(x, 1, 5);
+        putWhole(x, 0, -47);
+        putWhole(x, 1, 5);
         due.same("-47 by 5", x.remainder(0, 1, 2), 0);
         holds("-2", x, 2, 16384 + MINUS, HIGHEST, 0);
         due.same("the quotient 9's bits", x.told(2), 1);
@@ -456,7 +429,7 @@ public final class PromisesTest {
         due.same("-2 by -5", x.remainder(0, 1, 2), 0);
         holds("-2 is left", x, 2, 16384 + MINUS, HIGHEST, 0);
         due.same("the quotient 0", x.told(2), 0);
-        setWhole(x, 0, -35);
+        putWhole(x, 0, -35);
         due.same("-35 by -5", x.remainder(0, 1, 2), 0);
         holds("-0", x, 2, MINUS, 0, 0);
         due.same("the quotient 7", x.told(2), 7);
@@ -480,17 +453,15 @@ public final class PromisesTest {
     }
 
     private void remainderOfWholeNumbers() {
-        RealSteps x = new RealSteps();
-        RealSteps y = new RealSteps();
         for (int i = -40; i <= 40; i++) {
+            RealSteps x = new RealSteps();
             for (int j = 1; j <= 9; j++) {
-                setWhole(x, 0, i);
-                setWhole(x, 1, j);
-                setWhole(y, 0, i % j);
+                putWhole(x, 0, i);
+                putWhole(x, 1, j);
                 String what = i + " by " + j;
                 due.same(what, x.remainder(0, 1, 2), 0);
-                int top = i < 0 && i % j == 0 ? MINUS : y.part(0, 0);
-                holds(what, x, 2, top, y.part(0, 1), 0);
+                int top = i < 0 && i % j == 0 ? MINUS : topOfWhole(i % j);
+                holds(what, x, 2, top, fractionOfWhole(i % j));
                 due.same(what + ", the quotient's bits", x.told(2), Math.abs(i / j) & 7);
             }
         }
@@ -545,7 +516,7 @@ public final class PromisesTest {
         due.same("64 apart: the bits of 2^65 - 2 by 2", x.told(2), 7);
         due.same("64 apart: partial", x.told(3), 1);
         holds("64 apart: nothing left", x, 2, 0, 0, 0);
-        setWhole(x, 1, 3);
+        putWhole(x, 1, 3);
         x.set(0, 16383 + 66, HIGHEST, 0);
         due.same("2^66 by 3", x.remainder(0, 1, 2), 0);
         due.same("65 apart: partial", x.told(3), 1);
@@ -570,8 +541,8 @@ public final class PromisesTest {
         RealSteps x = new RealSteps();
         for (int i = -3; i <= 3; i++) {
             for (int j = -3; j <= 3; j++) {
-                setWhole(x, 0, i);
-                setWhole(x, 1, j);
+                putWhole(x, 0, i);
+                putWhole(x, 1, j);
                 due.same("compare " + i + " and " + j, x.compare(0, 1), Integer.compare(i, j));
                 due.same("nothing told", x.told(0), 0);
                 due.same("an answer", x.told(1), 1);
@@ -695,7 +666,7 @@ public final class PromisesTest {
         due.same("told of test", x.told(0), DENORMAL);
         due.throwsIndex("whole(2, 8)", () -> x.whole(2, 8));
         due.same("a step that throws is none", x.told(0), DENORMAL);
-        setWhole(x, 0, 7);
+        putWhole(x, 0, 7);
         x.remainder(0, 2, 4);
         x.whole(2, 3);
         due.same("the last remainder's quotient after other steps", x.told(2), 7);
@@ -712,7 +683,7 @@ public final class PromisesTest {
 
     private void throwingChangesNothing() {
         RealSteps x = with(ALL_MASKED, 16383, 0xc0000000, 0);
-        setWhole(x, 1, 7);
+        putWhole(x, 1, 7);
         x.constant(1, 2);
         x.remainder(1, 2, 3);
         x.whole(0, 4);
