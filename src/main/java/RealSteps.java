@@ -355,23 +355,25 @@ public final class RealSteps {
     /** A fraction that is not 0 by 2^shift, rounded to a whole number; shift is 1 or more. */
     private long rounded(boolean negative, long f, int shift) {
         long kept = shift > HIGHEST_PLACE ? 0L : f >>> shift;
-        if (isCut(f, shift) && isRoundedAway(negative, f, shift, kept)) {
-            return kept + 1;
+        if (!isCut(f, shift)) {
+            return kept;
         }
-        return kept;
-    }
-
-    private boolean isRoundedAway(boolean negative, long f, int shift, long kept) {
+        boolean away;
         switch (rounding()) {
             case DOWN:
-                return negative;
+                away = negative;
+                break;
             case UP:
-                return !negative;
+                away = !negative;
+                break;
             case TOWARDS_ZERO:
-                return false;
+                away = false;
+                break;
             default:
-                return isNearerAbove(f, shift, kept);
+                away = isNearerAbove(f, shift, kept);
+                break;
         }
+        return away ? kept + 1 : kept;
     }
 
     private static boolean isNearerAbove(long f, int shift, long kept) {
